@@ -515,7 +515,8 @@ public final class GraphScribe {
 
         private boolean isFieldNameFree(int cls, int field) {
             int name = fieldName(cls, field);
-            if (isWord(name, "class") || isWord(name, "id") || isWord(name, "reference")) {
+            // "reference" is forbidden, too, but longer than any name.
+            if (isWord(name, "class") || isWord(name, "id")) {
                 return false;
             }
             if (hasTwin(name, fieldName(cls, 0), name)) {
@@ -1000,7 +1001,7 @@ public final class GraphScribe {
             return 2;
         }
 
-        /** Puts the elements from that of an object up to the root into a row, behind the first ones: its new length. */
+        /** Puts the elements from an object's up to the root into a row, behind the first ones: its new length. */
         private int ancestry(int[] row, int first, int object) {
             int length = first;
             int next = object;
