@@ -273,7 +273,9 @@ public final class GraphScribe {
                 return false;
             }
             if (length >= row.length) {
-                row = Arrays.copyOf(row, Math.min(MOST_SIGNS, 2 * row.length));
+                char[] longer = new char[Math.min(MOST_SIGNS, 2 * row.length)];
+                System.arraycopy(row, 0, longer, 0, length);
+                row = longer;
             }
             row[length] = (char) u;
             length++;
@@ -792,7 +794,7 @@ public final class GraphScribe {
         }
 
         /** The element of an object in its owner's field (the root has the owner NONE), within depth others. */
-        void element(int object, int owner, int field, int place, int depth) {
+        private void element(int object, int owner, int field, int place, int depth) {
             if (tooDeep || out.hasOverflowed() || !heap.has(object)) {
                 return;
             }
