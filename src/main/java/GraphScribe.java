@@ -1108,33 +1108,24 @@ public final class GraphScribe {
             return attribute >= 0 && attribute < attributeSize;
         }
 
-        /** A new last element without a name yet: which one; NOTHING if there is no room. */
-        int begin(int place, int parent) {
+        /** A new last element, whose name stands behind its &lt;: which one; NOTHING if there is no room. */
+        int begin(int place, int nameTo, int parent) {
             if (size >= MOST_ELEMENTS) {
                 return NOTHING;
             }
             begins[size] = place;
-            nameFroms[size] = place;
-            nameTos[size] = place;
+            nameFroms[size] = place + 1;
+            nameTos[size] = nameTo;
             parents[size] = parent;
             kidCounts[size] = 0;
             firstAttributes[size] = attributeSize;
             attributeCounts[size] = 0;
-            textFroms[size] = values.length();
-            textTos[size] = values.length();
             solids[size] = false;
             if (has(parent)) {
                 kidCounts[parent]++;
             }
             size++;
             return size - 1;
-        }
-
-        void putName(int element, int from, int to) {
-            if (has(element)) {
-                nameFroms[element] = from;
-                nameTos[element] = to;
-            }
         }
 
         /** A new last attribute of the last element, whose value are the last values from there on. */
@@ -1150,6 +1141,7 @@ public final class GraphScribe {
             attributeCounts[size - 1]++;
         }
 
+        /** An element's own text stands behind the values of its attributes. */
         void beginText(int element) {
             if (has(element)) {
                 textFroms[element] = values.length();
@@ -1323,15 +1315,14 @@ public final class GraphScribe {
         }
 
         private void startTag() {
-            int element = tree.begin(place, open);
+            int begin = place;
             place++;
-            int from = place;
             skipName();
-            if (place == from) {
+            if (place == begin + 1) {
                 wrong = place;
                 return;
             }
-            tree.putName(element, from, place);
+            int element = tree.begin(begin, place, open);
             for (int a = 0; a <= MOST_ATTRIBUTES && skipsToName(); a++) {
                 attribute(element);
                 if (wrong != RIGHT) {
@@ -1643,7 +1634,6 @@ public final class GraphScribe {
             if (object == BAD) {
                 return false;
             }
-            filled[object] = 0;
             takesRole(e, OBJECT, object, NOTHING);
             return true;
         }

@@ -9,6 +9,7 @@ public final class P03ClassesTest {
         whatIsGone();
         whatStays();
         kinds();
+        toldAgain();
         Check.end();
     }
 
@@ -155,6 +156,11 @@ public final class P03ClassesTest {
         told("a(x:i,x:i,q:q)", -13);
         told("a();a(", -7);
         told("a_();a$()", 2);
+        told("ab();a()", 2);
+        told("a();ab()", 2);
+        told("a(xy:i,x:i)", 1);
+        told("a(x:i,xy:i)", 1);
+        told("a(xx:i,xy:i,yx:i)", 1);
     }
 
     private static void whatIsGone() {
@@ -197,6 +203,29 @@ public final class P03ClassesTest {
         Check.due("forbid(1, true) behind wrong classes", check.scribe.forbid(1, true), true);
         Check.due("write behind wrong classes", check.write(0, 0), "<a><x>9</x></a>");
         Check.due("read behind wrong classes", check.readText("<a><y/></a>"), -10004);
+    }
+
+    /** Nothing of classes that were told before, rightly or wrongly, is left. */
+    private static void toldAgain() {
+        Check check = new Check();
+        String[] texts = {"ab();cd()", "a();a()", "a(n:i,s:t,r:r,l:l*);b(r:r,q:r)", "a();b()", "a(m:l);b()", "a(s:t,n:i);b()"};
+        int[] want = {2, -8, 2, 2, 2, 2};
+        for (int round = 0; round < 3; round++) {
+            for (int i = 0; i < texts.length; i++) {
+                Check.due("wrong classes", check.tellClasses("ab(class:i@);bc(id:l*)+"), -23);
+                Check.due("classes() of " + texts[i], check.tellClasses(texts[i]), want[i]);
+                Check.due("count(5) behind " + texts[i], check.scribe.count(5), want[i] > 0 ? 0 : 2);
+                check.scribe.forbid(0, true);
+                check.scribe.forbid(1, true);
+                Check.due("make(0) behind " + texts[i], check.scribe.make(0), want[i] > 0 ? 0 : 2);
+                Check.due("make(1) behind " + texts[i], check.scribe.make(1), want[i] > 0 ? 1 : 3);
+            }
+            Check.due("the objects at first", check.write(0, 0), "<a><s/><n>0</n></a>");
+            Check.due("the objects at first", check.write(1, 0), "<b/>");
+            Check.due("a field that is no list any more", check.scribe.add(0, 0, 1), GraphScribe.BAD);
+            Check.due("a field that is not there any more", check.scribe.set(0, 2, 1), false);
+            Check.due("a number that was a text", check.scribe.set(0, 1, 1), true);
+        }
     }
 
     private static void kinds() {

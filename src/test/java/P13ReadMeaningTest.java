@@ -119,6 +119,11 @@ public final class P13ReadMeaningTest {
         senseless("<b nn='1'/>", 0);
         senseless("<b class='b'/>", 0);
         senseless("<b n='1' q='1'/>", 0);
+        senseless("<b jd='1'/>", 0);
+        senseless("<b ie='1'/>", 0);
+        senseless("<b i='1'/>", 0);
+        senseless("<b idd='1'/>", 0);
+        senseless("<b Id='1'/>", 0);
         senseless("<b q='1' n='1'/>", 0);
         senseless("<b><n>1</n></b>", 1);
         senseless("<b><t>1</t></b>", 1);
@@ -213,6 +218,13 @@ public final class P13ReadMeaningTest {
         told("<a><r n='1' class='b'/></a>", 2);
         told("<a><r class='&#98;'/></a>", 2);
         senseless("<a><r class='a'><r/></r></a>", 2);
+        senseless("<a><r blass='a'/></a>", 1);
+        senseless("<a><r clasp='a'/></a>", 1);
+        senseless("<a><r clas='a'/></a>", 1);
+        senseless("<a><r classs='a'/></a>", 1);
+        senseless("<a><r class='a' clasp='a'/></a>", 1);
+        senseless("<a><r seference='/a'/></a>", 1);
+        senseless("<a><r referencf='/a'/></a>", 1);
     }
 
     private static void ids() {

@@ -18,6 +18,7 @@ public final class P13ReadXmlTest {
         mostElements();
         mostAttributes();
         whatIsGone();
+        manyReadings();
         Check.end();
     }
 
@@ -247,7 +248,7 @@ public final class P13ReadXmlTest {
     private static void references() {
         String[] right = {"&amp;", "&", "&lt;", "<", "&gt;", ">", "&quot;", "\"", "&apos;", "'", "&#65;", "A",
             "&#065;", "A", "&#000065;", "A", "&#x41;", "A", "&#x000041;", "A", "&#x7e;", "~", "&#x7E;", "~",
-            "&#x6a;", "j", "&#x6A;", "j", "&#x4F;", "O", "&#32;", " ", "&#126;", "~", "&#38;lt;", "&lt;", "&amp;amp;", "&amp;"};
+            "&#x6a;", "j", "&#x6A;", "j", "&#x4F;", "O", "&#x2f;", "/", "&#x5a;", "Z", "&#x5A;", "Z", "&#32;", " ", "&#126;", "~", "&#38;lt;", "&lt;", "&amp;amp;", "&amp;"};
         for (int i = 0; i < right.length; i += 2) {
             Check check = Check.of(CLASSES);
             Check.due("read of " + right[i], check.readText("<a><s>" + right[i] + "</s></a>"), 1);
@@ -258,7 +259,7 @@ public final class P13ReadXmlTest {
         String[] wrong = {"&", "&;", "&a;", "&am;", "&amp", "&amp ;", "&AMP;", "&ampp;", "&lt", "&quo;", "&apo;", "& ;",
             "&#;", "&#x;", "&#X41;", "&#65", "&#65 ;", "& #65;", "&#6a;", "&#xg;", "&#x4g;", "&#0000065;", "&#x0000041;",
             "&#31;", "&#127;", "&#0;", "&#8;", "&#11;", "&#12;", "&#14;", "&#x1f;", "&#x7f;", "&#128;", "&#999999;",
-            "&#xffffff;", "&#-65;", "&#+65;", "&#65.;", "&&amp;", "&#x4`;", "&#x@;", "&#/;", "&#:;", "&#xG;"};
+            "&#xffffff;", "&#-65;", "&#+65;", "&#65.;", "&&amp;", "&#x4`;", "&#x@;", "&#/;", "&#:;", "&#xG;", "&#x4G;"};
         for (String w : wrong) {
             wrong("<a><s>ab" + w + "</s></a>", 8);
             wrong("<b t=\"" + w + "\"/>", 6);
@@ -329,6 +330,20 @@ public final class P13ReadXmlTest {
         told(text + "/>", -10001);
         told(text + " _a=''/>", -10001);
         wrong(text + " _aa=''/>", text.length() + 1);
+    }
+
+    /** Nothing of the texts that were read before is in the way of the next. */
+    private static void manyReadings() {
+        Check check = Check.of(CLASSES);
+        for (int i = 0; i < 400; i++) {
+            Check.due("reading " + i, check.readText("<b t='abcdefghij' id='1'><b id='2' t='&#65;'/><b id='3'/></b>"), 3);
+            Check.due("text of reading " + i, check.textOf(1, 0, 0), "abcdefghij");
+            Check.due("text of reading " + i, check.textOf(1, 1, 0), "A");
+            Check.due("text of reading " + i, check.textOf(1, 2, 0), "");
+        }
+        Check.due("wrong", check.readText("<b t='abcdefghij' id='1'><b id='2' t='&#6;'/>"), -39);
+        Check.due("right", check.readText("<a><s>z</s><r reference='/a'/></a>"), 1);
+        Check.due("text", check.textOf(1, 0, 1), "z");
     }
 
     private static void whatIsGone() {

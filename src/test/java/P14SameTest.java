@@ -43,6 +43,7 @@ public final class P14SameTest {
         same("text", check, "<a><n>5</n><s>xy</s></a>", true);
         same("text", check, "<a><n>5</n><s>xz</s></a>", false);
         same("text", check, "<a><n>5</n><s>x</s></a>", false);
+        same("text", check, "<a><n>5</n><s>yy</s></a>", false);
         same("text", check, "<a><n>5</n><s>xyz</s></a>", false);
         same("text", check, "<a><n>5</n></a>", false);
         check.scribe.set(0, 2, 1);
