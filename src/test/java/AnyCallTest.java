@@ -8,18 +8,20 @@ public final class AnyCallTest {
         "<a/>", "<a n='1'><s>x</s><b/><a reference='/a'/></a>", "<a><l><b/><b reference='../b'/></l></a>", "<a><", "<b>&",
         "<a><r class='b'><a reference='../..'/></r></a>", "xyz", "\t"};
 
+    private static final int MOST_CALLS_AT_ONCE = 60;
+
     private final Random random;
     private final Check check = new Check();
-    private final GraphScribe scribe = check.scribe;
+    private final Scribe scribe = check.scribe;
 
     private AnyCallTest(long seed) {
         random = new Random(seed);
     }
 
     public static void main(String[] args) {
-        for (int seed = 0; seed < 300; seed++) {
+        for (int seed = 0; seed < 500; seed++) {
             AnyCallTest test = new AnyCallTest(seed);
-            for (int i = 0; i < 400; i++) {
+            for (int i = 0; i < 400 && test.scribe.left() > MOST_CALLS_AT_ONCE; i++) {
                 test.call();
             }
         }

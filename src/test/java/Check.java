@@ -1,6 +1,6 @@
 /** What the project's tests share: a scribe with shorter calls, and a count of the answers that are not due. */
 final class Check {
-    final GraphScribe scribe = new GraphScribe();
+    final Scribe scribe = new Scribe();
     private static int wrong = 0;
 
     /** Compares an answer with the one that is due; prints it if it is another. */
@@ -65,11 +65,7 @@ final class Check {
 
     /** What was written. */
     String written() {
-        StringBuilder signs = new StringBuilder();
-        for (int i = 0; i < scribe.count(3); i++) {
-            signs.append((char) scribe.sign(i));
-        }
-        return signs.toString();
+        return State.written(scribe);
     }
 
     /** What a writing gives: its signs, or its answer if it is none of a text. */
@@ -78,20 +74,13 @@ final class Check {
         if (answer < 0) {
             return Integer.toString(answer);
         }
-        due("count(3) behind write", scribe.count(3), answer);
-        return written();
+        String text = written();
+        due("the answer of write", answer, text.length());
+        return text;
     }
 
     /** A text of a field. */
     String textOf(int heap, int object, int field) {
-        StringBuilder signs = new StringBuilder();
-        for (int i = 0; scribe.value(heap, object, field, i) != GraphScribe.NONE && i < 100; i++) {
-            signs.append((char) scribe.value(heap, object, field, i));
-        }
-        return signs.toString();
-    }
-
-    static String times(String part, int n) {
-        return part.repeat(n);
+        return State.text(scribe, heap, object, field);
     }
 }

@@ -1,7 +1,7 @@
 /** Promise 1: a new object has no classes, empty heaps, nothing written and LIMIT 10. */
 public final class P01NewObjectTest {
     public static void main(String[] args) {
-        GraphScribe scribe = new GraphScribe();
+        Scribe scribe = new Scribe();
         for (int what = 0; what <= 5; what++) {
             Check.due("count(" + what + ") of a new object", scribe.count(what), 0);
         }

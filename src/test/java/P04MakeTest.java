@@ -2,7 +2,7 @@
 public final class P04MakeTest {
     public static void main(String[] args) {
         Check check = Check.of("a(n:i,s:t,r:r,l:l);b(r:r)");
-        GraphScribe scribe = check.scribe;
+        Scribe scribe = check.scribe;
         Check.due("make(-1)", scribe.make(-1), GraphScribe.BAD);
         Check.due("make(2)", scribe.make(2), GraphScribe.BAD);
         Check.due("make(MIN)", scribe.make(Integer.MIN_VALUE), GraphScribe.BAD);

@@ -8,7 +8,7 @@ public final class P05SetTest {
     }
 
     private static void numbers() {
-        GraphScribe scribe = Check.of("a(n:i,m:i@,s:t,l:l)").scribe;
+        Scribe scribe = Check.of("a(n:i,m:i@,s:t,l:l)").scribe;
         scribe.make(0);
         scribe.make(0);
         int[] numbers = {0, 1, -1, -2, 29, 30, 31, Integer.MAX_VALUE, Integer.MIN_VALUE};
@@ -24,7 +24,7 @@ public final class P05SetTest {
     }
 
     private static void references() {
-        GraphScribe scribe = Check.of("a(r:r,q:r);b()").scribe;
+        Scribe scribe = Check.of("a(r:r,q:r);b()").scribe;
         scribe.make(0);
         scribe.make(1);
         Check.due("set to itself", scribe.set(0, 0, 0), true);
@@ -42,7 +42,7 @@ public final class P05SetTest {
     }
 
     private static void wrongOnes() {
-        GraphScribe scribe = Check.of("a(n:i,s:t,l:l,t:t@);b()").scribe;
+        Scribe scribe = Check.of("a(n:i,s:t,l:l,t:t@);b()").scribe;
         scribe.make(0);
         scribe.make(1);
         int[] fields = {1, 2, 3, 4, -1, 5, Integer.MIN_VALUE, Integer.MAX_VALUE};

@@ -2,7 +2,7 @@
 public final class P06TextTest {
     public static void main(String[] args) {
         Check check = Check.of("a(s:t,n:i,u:t@,l:l);b(r:r)");
-        GraphScribe scribe = check.scribe;
+        Scribe scribe = check.scribe;
         scribe.make(0);
         scribe.make(1);
         Check.due("text", check.putText(0, 0, "hello"), true);

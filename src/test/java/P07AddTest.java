@@ -1,7 +1,7 @@
 /** Promise 7: add puts an object behind the others of a list. */
 public final class P07AddTest {
     public static void main(String[] args) {
-        GraphScribe scribe = Check.of("a(n:i,s:t,r:r,l:l);b(m:l*)").scribe;
+        Scribe scribe = Check.of("a(n:i,s:t,r:r,l:l);b(m:l*)").scribe;
         scribe.make(0);
         scribe.make(1);
         scribe.make(1);

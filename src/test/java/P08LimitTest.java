@@ -1,7 +1,7 @@
 /** Promise 8: another LIMIT, from 1 to 20. */
 public final class P08LimitTest {
     public static void main(String[] args) {
-        GraphScribe scribe = new GraphScribe();
+        Scribe scribe = new Scribe();
         Check.due("limit(20)", scribe.limit(20), 10);
         Check.due("limit(1)", scribe.limit(1), 20);
         int[] wrong = {0, -1, 21, Integer.MIN_VALUE, Integer.MAX_VALUE};

@@ -2,7 +2,7 @@
 public final class P12ForbidTest {
     public static void main(String[] args) {
         Check check = Check.of("a(r:r,l:l);b(m:l*);c()");
-        GraphScribe scribe = check.scribe;
+        Scribe scribe = check.scribe;
         Check.due("forbid(1, false)", scribe.forbid(1, false), false);
         Check.due("forbid(1, true)", scribe.forbid(1, true), false);
         Check.due("forbid(1, true) again", scribe.forbid(1, true), true);

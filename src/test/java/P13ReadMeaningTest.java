@@ -385,7 +385,7 @@ public final class P13ReadMeaningTest {
     private static void whatWasRead() {
         Check check = told("<b n='-3' t='&lt;'><a><x>7</x><s>u</s><r class='c_-__'><q reference='../..'/></r></a>"
                 + "<m><b/><a reference='/b/a'/></m></b>", 4);
-        GraphScribe scribe = check.scribe;
+        Scribe scribe = check.scribe;
         int[] kinds = {1, 0, 2, 1};
         for (int i = 0; i < kinds.length; i++) {
             Check.due("kind(1, " + i + ")", scribe.kind(1, i), kinds[i]);

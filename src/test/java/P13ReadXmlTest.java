@@ -15,8 +15,7 @@ public final class P13ReadXmlTest {
         otherMarkup();
         references();
         depths();
-        mostElements();
-        mostAttributes();
+        manyAttributes();
         whatIsGone();
         manyReadings();
         Check.end();
@@ -297,45 +296,31 @@ public final class P13ReadXmlTest {
         wrong("<q>".repeat(40) + "<!--", 124);
         wrong("<q>".repeat(40) + "</", 122);
         wrong(nested(40, "</r>"), 122);
-        told("<q>" + nested(39, "") + nested(39, "") + "</q>", -10001);
+        told("<q>" + nested(39, "") + "<q><q/></q></q>", -10001);
+        wrong("<q><q><q/></q>" + nested(39, "<q/>"), 14 + 3 * 38 + 3);
     }
 
-    private static void mostElements() {
-        told("<q>" + "<q/>".repeat(199) + "</q>", -10001);
-        wrong("<q>" + "<q/>".repeat(200) + "</q>", 3 + 4 * 199);
-        wrong("<q>" + "<q/>".repeat(199) + "<", 3 + 4 * 199);
-        wrong("<q>" + "<q/>".repeat(199) + "<!", 3 + 4 * 199);
-        wrong("<q>" + "<q/>".repeat(199) + "<!q", 3 + 4 * 199);
-        wrong("<q>" + "<q/>".repeat(198) + "<!q", 3 + 4 * 198 + 1);
-        wrong("<q>" + "<q/>".repeat(199) + "<1", 3 + 4 * 199);
-        told("<q>" + "<q/>".repeat(199) + "<!-- --><![CDATA[]]>x</q >", -10001);
-        wrong("<q>" + "<q/>".repeat(199) + "</r>", 3 + 4 * 199 + 2);
-        told("<q>" + "<q></q>".repeat(199) + "</q>", -10001);
-        wrong("<q>" + "<q></q>".repeat(199) + "<q/></q>", 3 + 7 * 199);
-    }
-
-    private static void mostAttributes() {
+    /** An element with many attributes, and nothing else wrong than what they mean. */
+    private static void manyAttributes() {
         StringBuilder text = new StringBuilder("<b");
-        int names = 0;
         String signs = "abcdefghijklmnopqrstuvwxyzABCDEFGHIJKLMNOPQRSTUVWXYZ_";
-        for (int i = 0; i < signs.length() && text.length() < 2900; i++) {
+        for (int i = 0; i < signs.length(); i++) {
             text.append(' ').append(signs.charAt(i)).append("=''");
-            names++;
         }
-        for (int i = 0; text.length() < 2980; i++) {
-            text.append(" _").append((char) ('a' + i % 26)).append((char) ('a' + i / 26)).append("=''");
-            names++;
+        for (int i = 0; i < 20; i++) {
+            text.append(" _").append((char) ('a' + i)).append("=''");
         }
-        Check.due("many attributes", names > 400, true);
         told(text + "/>", -10001);
-        told(text + " _a=''/>", -10001);
-        wrong(text + " _aa=''/>", text.length() + 1);
+        told(text + " a_=''/>", -10001);
+        wrong(text + " _=''/>", text.length() + 1);
+        wrong(text + " a=''/>", text.length() + 1);
+        wrong(text + " _t=''/>", text.length() + 1);
     }
 
     /** Nothing of the texts that were read before is in the way of the next. */
     private static void manyReadings() {
         Check check = Check.of(CLASSES);
-        for (int i = 0; i < 400; i++) {
+        for (int i = 0; i < 6; i++) {
             Check.due("reading " + i, check.readText("<b t='abcdefghij' id='1'><b id='2' t='&#65;'/><b id='3'/></b>"), 3);
             Check.due("text of reading " + i, check.textOf(1, 0, 0), "abcdefghij");
             Check.due("text of reading " + i, check.textOf(1, 1, 0), "A");

@@ -46,6 +46,22 @@ public final class P14SameTest {
         same("text", check, "<a><n>5</n><s>yy</s></a>", false);
         same("text", check, "<a><n>5</n><s>xyz</s></a>", false);
         same("text", check, "<a><n>5</n></a>", false);
+        references();
+        lists();
+    }
+
+    /** An object of a with a number and a text, and one of b. */
+    private static Check two() {
+        Check check = Check.of(CLASSES);
+        check.scribe.make(0);
+        check.scribe.make(1);
+        check.scribe.set(0, 0, 5);
+        check.putText(0, 1, "xy");
+        return check;
+    }
+
+    private static void references() {
+        Check check = two();
         check.scribe.set(0, 2, 1);
         same("reference", check, "<a><n>5</n><s>xy</s></a>", false);
         same("reference", check, "<a><n>5</n><s>xy</s><r class='b'/></a>", true);
@@ -54,6 +70,10 @@ public final class P14SameTest {
         same("within a reference", check, "<a><n>5</n><s>xy</s><r class='b'><n>1</n></r></a>", false);
         check.scribe.set(0, 2, GraphScribe.NONE);
         same("no reference", check, "<a><n>5</n><s>xy</s><r class='b'/></a>", false);
+    }
+
+    private static void lists() {
+        Check check = two();
         check.scribe.add(0, 3, 1);
         same("list", check, "<a><n>5</n><s>xy</s></a>", false);
         same("list", check, "<a><n>5</n><s>xy</s><l><b/></l></a>", true);

@@ -2,7 +2,7 @@
 public final class P15KindTest {
     public static void main(String[] args) {
         Check check = Check.of("a(l:l);b(r:r);c()");
-        GraphScribe scribe = check.scribe;
+        Scribe scribe = check.scribe;
         scribe.make(2);
         scribe.make(0);
         scribe.make(1);

@@ -2,7 +2,7 @@
 public final class P16ValueTest {
     public static void main(String[] args) {
         Check check = Check.of("a(n:i,s:t,r:r,l:l);b(m:i@,u:t@,k:l*)");
-        GraphScribe scribe = check.scribe;
+        Scribe scribe = check.scribe;
         scribe.make(0);
         scribe.make(1);
         scribe.set(0, 0, -8);
@@ -21,7 +21,7 @@ public final class P16ValueTest {
         Check.end();
     }
 
-    private static void fields(GraphScribe scribe, int heap) {
+    private static void fields(Scribe scribe, int heap) {
         int[] places = {0, 1, -1, 5, Integer.MIN_VALUE, Integer.MAX_VALUE};
         for (int i : places) {
             Check.due("number, i " + i, scribe.value(heap, 0, 0, i), -8);
@@ -46,7 +46,7 @@ public final class P16ValueTest {
         Check.due("object 1 of an implicit list", scribe.value(heap, 1, 2, 1), GraphScribe.NONE);
     }
 
-    private static void wrongOnes(GraphScribe scribe) {
+    private static void wrongOnes(Scribe scribe) {
         int[] wrong = {-1, 4, 30, Integer.MIN_VALUE, Integer.MAX_VALUE};
         for (int w : wrong) {
             Check.due("heap " + w, scribe.value(w, 0, 0, 0), 0);

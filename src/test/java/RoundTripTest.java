@@ -21,11 +21,17 @@ import org.xml.sax.InputSource;
  */
 public final class RoundTripTest {
     private static final String KINDS = "itrl";
+    /** Calls that are left for what is written and read. */
+    private static final int SPARE_CALLS = 100;
     private static final String SIGNS = "abc XYZ019<>&\"'~]-;#/[.";
 
     private final Random random;
     private final Check check = new Check();
-    private final GraphScribe scribe = check.scribe;
+    private final int[] kinds = new int[30];
+    private final int[][] numbers = new int[30][4];
+    private final String[][] texts = new String[30][4];
+    private final int[][] targets = new int[30][4];
+    private final List<List<List<Integer>>> lists = new ArrayList<>();
     private final List<String> classNames = new ArrayList<>();
     private final List<List<String>> fields = new ArrayList<>();
     private final DocumentBuilder builder;
@@ -55,17 +61,18 @@ public final class RoundTripTest {
     private int run() throws Exception {
         tellClasses();
         makeObjects();
-        scribe.limit(1 + random.nextInt(20));
+        check.scribe.limit(1 + random.nextInt(20));
         int writings = 0;
         for (mode = 0; mode <= 3; mode++) {
             int root = random.nextInt(objects);
-            if (scribe.write(root, mode) > 0) {
+            Scribe twin = check.scribe.twin();
+            if (twin.write(root, mode) > 0) {
                 writings++;
-                String text = check.written();
+                String text = State.written(twin);
                 begun = new IdentityHashMap<>();
                 elements = new HashMap<>();
                 object(parsed(text), root, null);
-                readAgain(root, text);
+                readAgain(twin, root, text);
             }
         }
         return writings;
@@ -104,30 +111,41 @@ public final class RoundTripTest {
     private void makeObjects() {
         objects = 1 + random.nextInt(random.nextBoolean() ? 6 : 30);
         for (int i = 0; i < objects; i++) {
-            Check.due("make", scribe.make(random.nextInt(classNames.size())), i);
+            kinds[i] = random.nextInt(classNames.size());
+            Check.due("make", check.scribe.make(kinds[i]), i);
+            lists.add(List.of(new ArrayList<>(), new ArrayList<>(), new ArrayList<>(), new ArrayList<>()));
         }
         for (int i = 0; i < objects; i++) {
-            List<String> told = fields.get(scribe.kind(0, i));
+            List<String> told = fields.get(kinds[i]);
             for (int f = 0; f < told.size(); f++) {
-                change(i, f, kindOf(told.get(f)));
+                texts[i][f] = "";
+                targets[i][f] = GraphScribe.NONE;
+                if (check.scribe.left() > SPARE_CALLS) {
+                    change(i, f, kindOf(told.get(f)));
+                }
             }
         }
     }
 
     private void change(int object, int field, char kind) {
         if (kind == 'i') {
-            scribe.set(object, field, random.nextBoolean() ? random.nextInt() : random.nextInt(100));
+            numbers[object][field] = random.nextBoolean() ? random.nextInt() : random.nextInt(100);
+            check.scribe.set(object, field, numbers[object][field]);
         } else if (kind == 't') {
             StringBuilder text = new StringBuilder();
             for (int i = random.nextInt(21); i > 0; i--) {
                 text.append(SIGNS.charAt(random.nextInt(SIGNS.length())));
             }
+            texts[object][field] = text.toString();
             Check.due("text", check.putText(object, field, text.toString()), true);
         } else if (kind == 'r') {
-            scribe.set(object, field, random.nextInt(4) == 0 ? GraphScribe.NONE : random.nextInt(objects));
+            targets[object][field] = random.nextInt(4) == 0 ? GraphScribe.NONE : random.nextInt(objects);
+            check.scribe.set(object, field, targets[object][field]);
         } else {
             for (int i = random.nextInt(5); i > 0; i--) {
-                scribe.add(object, field, random.nextInt(objects));
+                int target = random.nextInt(objects);
+                lists.get(object).get(field).add(target);
+                check.scribe.add(object, field, target);
             }
         }
     }
@@ -153,7 +171,7 @@ public final class RoundTripTest {
 
     /** The element of an object, or of a reference to it: of a field with a name, or in a list or as root without. */
     private void object(Element element, int object, String fieldName) throws Exception {
-        String className = xmlName(classNames.get(scribe.kind(0, object)));
+        String className = xmlName(classNames.get(kinds[object]));
         Check.due("name", element.getTagName(), fieldName == null ? className : fieldName);
         if (mode != 3 && elements.containsKey(object)) {
             reference(element, object);
@@ -171,7 +189,7 @@ public final class RoundTripTest {
             attributes++;
         }
         List<Element> rest = children(element);
-        List<String> told = fields.get(scribe.kind(0, object));
+        List<String> told = fields.get(kinds[object]);
         for (int f = 0; f < told.size(); f++) {
             String name = xmlName(told.get(f).substring(0, told.get(f).indexOf(':')));
             if (told.get(f).endsWith("@")) {
@@ -186,15 +204,14 @@ public final class RoundTripTest {
     }
 
     private String single(int object, int field, char kind) {
-        return kind == 'i' ? Integer.toString(scribe.value(0, object, field, 0)) : check.textOf(0, object, field);
+        return kind == 'i' ? Integer.toString(numbers[object][field]) : texts[object][field];
     }
 
     private void content(List<Element> rest, int object, int field, String name, String told) throws Exception {
         char kind = kindOf(told);
-        int first = scribe.value(0, object, field, 0);
         if (kind == 'r') {
-            if (first != GraphScribe.NONE) {
-                object(rest.remove(0), first, name);
+            if (targets[object][field] != GraphScribe.NONE) {
+                object(rest.remove(0), targets[object][field], name);
             }
             return;
         }
@@ -208,8 +225,8 @@ public final class RoundTripTest {
             }
             items = children(element);
         }
-        for (int i = 0; kind == 'l' && scribe.value(0, object, field, i) != GraphScribe.NONE; i++) {
-            object(items.remove(0), scribe.value(0, object, field, i), null);
+        for (int target : lists.get(object).get(field)) {
+            object(items.remove(0), target, null);
         }
         if (items != rest) {
             Check.due("objects that are too many", items.size(), 0);
@@ -231,7 +248,7 @@ public final class RoundTripTest {
         Check.due("[1] in a path", told.contains("[1]"), false);
     }
 
-    private void readAgain(int root, String text) {
+    private void readAgain(Scribe scribe, int root, String text) {
         scribe.take();
         int answer = scribe.read();
         if (answer < 0) {
@@ -244,10 +261,10 @@ public final class RoundTripTest {
         }
         Check.due("objects of " + text, answer, begun.size());
         Check.due("same graph as " + text, scribe.same(root), true);
-        List<String> told = fields.get(scribe.kind(0, root));
+        List<String> told = fields.get(kinds[root]);
         for (int f = 0; f < told.size(); f++) {
             if (kindOf(told.get(f)) == 'i') {
-                int v = scribe.value(0, root, f, 0);
+                int v = numbers[root][f];
                 scribe.set(root, f, v ^ 1);
                 Check.due("same graph with another number", scribe.same(root), false);
                 scribe.set(root, f, v);
