@@ -81,5 +81,27 @@ public final class Edge01NewObjectTest {
             rounds++;
         }
         Check.due("many rounds", rounds > 90, true);
+        roundsWithManyValues();
+    }
+
+    /** Each reading has 60 attributes and 30 texts, and none of those before is in the way of the last. */
+    private static void roundsWithManyValues() {
+        Check check = Check.of("a(k:l*,m:i@,u:t@,s:t)");
+        for (int i = 0; i < 30; i++) {
+            check.scribe.make(0);
+            check.scribe.set(i, 1, 100 + i);
+        }
+        for (int i = 1; i < 30; i++) {
+            check.scribe.add((i - 1) / 8, 0, i);
+        }
+        check.putText(29, 2, "'last'");
+        check.putText(29, 3, "<last>");
+        while (check.scribe.left() >= 4) {
+            int mode = check.scribe.left() % 3;
+            Check.due("write", check.scribe.write(0, mode) > 0, true);
+            check.scribe.take();
+            Check.due("read", check.scribe.read(), 30);
+            Check.due("same", check.scribe.same(0), true);
+        }
     }
 }

@@ -179,6 +179,8 @@ public final class Edge03ClassesTest {
         Edge.wrongClasses("a();a()^");
         Edge.wrongClasses("a();b();c();d();e();a()^");
         Edge.wrongClasses("b();a(x:i);a(y:i)^");
+        Edge.wrongClasses("ab();cd();ab()^");
+        Edge.wrongClasses("abcdefg_();abcdefg_()^");
         Edge.rightClasses("a();A();a0();aa();_();__()", 6);
         Edge.rightClasses("abcdefgh();abcdefgi();bbcdefgh()", 3);
         Edge.wrongClasses("a();a();b(^");
@@ -190,6 +192,8 @@ public final class Edge03ClassesTest {
         Edge.wrongClasses("a(x:i,x:i)^");
         Edge.wrongClasses("a(x:i@,y:t,z:r,x:l)^");
         Edge.wrongClasses("b();a(p:i,x:i,x:t);c()^");
+        Edge.wrongClasses("a(xy:i,x:i,xy:t)^");
+        Edge.wrongClasses("a(p:i);b(q:i,abcdefg$:i,abcdefg$:t)^");
         Edge.rightClasses("a(x:i,X:i,x0:i,xx:i);b(x:t)", 2);
         Edge.wrongClasses("a(x:i,x:i);b(^,");
     }
@@ -217,8 +221,11 @@ public final class Edge03ClassesTest {
         Edge.wrongClasses("a(a:l*)^");
         Edge.wrongClasses("a(l:l*,a:i)^");
         Edge.wrongClasses("a(l:l*,f:i);b();c();d();e();f()^");
+        Edge.wrongClasses("a(l:l*,bc:i);bc()^");
+        Edge.wrongClasses("$bcdefgh();a(x:i,$bcdefgh:i,l:l*)^");
         Edge.rightClasses("a(l:l,b:i,a:r);b()", 2);
         Edge.rightClasses("a(l:l*,bb:i);b();c(a:i,b:i)", 3);
+        Edge.rightClasses("a(l:l*,bc:i);b();cc();Bc()", 4);
     }
 
     /** "What was collected becomes the classes, and is gone; the heap, what was written and read, and forbidding are gone" */

@@ -99,7 +99,7 @@ public final class Edge13ReadXmlTest {
         }
     }
 
-    /** "blanks, an element, blanks" and nothing else */
+    /** ", an element, blanks": and nothing else */
     private static void nothingElseAround() {
         Edge.wrong("^x<a/>");
         Edge.wrong(" ^&#32;<a/>");

@@ -10,6 +10,7 @@ public final class Edge13ReferenceTest {
         pathsThatLeadNowhere();
         byWay();
         oneThingAtLeast();
+        whatStandsBehind();
         waysThatLeadNowhere();
         upFromTheRoot();
         emptySteps();
@@ -124,9 +125,26 @@ public final class Edge13ReferenceTest {
         Edge.senseless("<a><l>^<a reference=''/></l></a>");
     }
 
+    /** What stands in the text behind a value is not of it. */
+    private static void whatStandsBehind() {
+        Edge.senseless("<a>^<r reference='.'/><s>./</s></a>");
+        Edge.senseless("<a>^<r reference='.'/><s>.</s></a>");
+        Edge.senseless("<a>^<r reference=''/><s>/a</s></a>");
+        Edge.senseless("<a>^<r reference=''/><s>..</s></a>");
+        Edge.senseless("<a id='1'>^<r reference=''/><n>1</n></a>");
+        Edge.senseless("<a id='1'><l><a id='12'/></l>^<r reference='2'/><n>1</n></a>");
+        Edge.senseless("<a><l><b/><b/></l>^<r reference='/a/l/b[2'/><s>]</s></a>");
+        Check check = Edge.right("<a id='1'><l><a id='12'/></l><r reference='1'/><n>2</n></a>", 2);
+        Check.due("reference", check.scribe.value(1, 0, 2, 0), 0);
+        check = Edge.right("<a><l><b/><b/></l><r reference='/a/l/b'/><s>[2]</s></a>", 3);
+        Check.due("reference", check.scribe.value(1, 0, 2, 0), 1);
+        check = Edge.right("<a><l><a><r reference='..'/><s>/..</s></a></l></a>", 2);
+        Check.due("reference", check.scribe.value(1, 1, 2, 0), 1);
+    }
+
     private static void waysThatLeadNowhere() {
         leadsNowhere(".", "...", "....", "./..", "../.", "../l/b/..", "../l/../l/b", "..l/b", "a", "l/b", "r", "..a", ".. ", " ..",
-            "../l/q", "../q", "../b", "..[2]", "../l/b[3]", "/..", "/a/..", "/a/../a", "/../a", "/.");
+            "..xl/b", ".. l/b", "...l/b", "..x", ".a", "./", ".//l/b", ".a/l/b", "a./l/b", "../l/q", "../q", "../b", "..[2]", "../l/b[3]", "/..", "/a/..", "/a/../a", "/../a", "/.");
     }
 
     /** "nor does .. of the root" */
@@ -157,7 +175,7 @@ public final class Edge13ReferenceTest {
         leadsNowhere("/a/l/b[]", "/a/l/b[", "/a/l/b]", "/a/l/b[2", "/a/l/b2]", "/a/l/b[2]]", "/a/l/b[[2]", "/a/l/b[2][2]",
             "/a/l/b[ 2]", "/a/l/b[2 ]", "/a/l/b [2]", "/a/l/b[2] ", "/a/l/b[2]b", "/a/l/b[-2]", "/a/l/b[+2]", "/a/l/b[a]", "/a/l/b[2a]",
             "/a/l/b[20]", "/a/l/b[258]", "/a/l/b[65538]", "/a/l/b[4294967298]", "/a/l/b[18446744073709551618]", "/a/l/b[2/a",
-            "/a/l/b[2]a", "/a/l/b[2.]", "/a/l/b[/]", "/a/l/b[:]", "/a/l/b(2)");
+            "/a/l/b[2]a", "/a/l/b[2.]", "/a/l/b[1(]", "/a/l/b[1)]", "/a/l/b[2,]", "/a/l/b[/]", "/a/l/b[:]", "/a/l/b(2)");
     }
 
     /** The eighth of a list, and one behind it. */
