@@ -30,6 +30,8 @@ public final class Edge08WriteTest {
         wayToBefore();
         steps();
         lastStep();
+        longestWays();
+        longestWayFromList();
         writtenAgainInModeThree();
         Check.end();
     }
@@ -418,6 +420,53 @@ public final class Edge08WriteTest {
         check.scribe.set(0, 1, 2);
         Check.due("the eighth", check.write(0, 1),
                 "<h><e/>" + "<e reference=\"/h/e\"/>".repeat(6) + "<e/><r reference=\"/h/e[8]\"/></h>");
+    }
+
+    /** 20 objects, one in the list of the other, with the content of the last and of the first behind these lists. */
+    private static String nested(String last, String first) {
+        return "<a><l>".repeat(19) + "<a><l/>" + last + "</a>" + "</l></a>".repeat(18) + "</l>" + first + "</a>";
+    }
+
+    /** "for each element from the root down to this one (both too)": 40 elements, and 39 on the way to the last object */
+    private static void longestWays() {
+        Check check = Check.of("a(l:l,r:r)");
+        check.scribe.limit(20);
+        for (int i = 0; i < 20; i++) {
+            check.scribe.make(0);
+        }
+        for (int i = 0; i < 19; i++) {
+            check.scribe.add(i, 0, i + 1);
+        }
+        check.scribe.set(19, 1, 0);
+        check.scribe.set(0, 1, 19);
+        String up = ".." + "/..".repeat(38);
+        String down = "/l/a".repeat(19);
+        Check.due("mode 0", check.write(0, 0),
+                nested("<r reference=\"" + up + "\"/>", "<r reference=\".." + down + "\"/>"));
+        Check.due("mode 1", check.write(0, 1),
+                nested("<r reference=\"/a\"/>", "<r reference=\"/a" + down + "\"/>"));
+        for (int mode = 0; mode <= 2; mode++) {
+            Check.due("write", check.scribe.write(0, mode) > 0, true);
+            check.scribe.take();
+            Check.due("read() of mode " + mode, check.scribe.read(), 20);
+            Check.due("same(0) behind mode " + mode, check.scribe.same(0), true);
+        }
+    }
+
+    /** One element more is written, but too deep to be read. */
+    private static void longestWayFromList() {
+        Check check = Check.of("a(l:l)");
+        check.scribe.limit(20);
+        for (int i = 0; i < 20; i++) {
+            check.scribe.make(0);
+        }
+        for (int i = 0; i < 20; i++) {
+            check.scribe.add(i, 0, (i + 1) % 20);
+        }
+        String text = "<a><l>".repeat(20) + "<a reference=\"" + ".." + "/..".repeat(39) + "\"/>" + "</l></a>".repeat(20);
+        Check.due("mode 0", check.write(0, 0), text);
+        check.scribe.take();
+        Check.due("read()", check.scribe.read(), -1 - "<a><l>".length() * 20);
     }
 
     /** "An object that was begun before is not written again, but in MODE 3" */
